@@ -192,6 +192,12 @@ public final class CellTest {
         content(x, 7, -1, 0);
         Checks.due("found nothing there", x.count(1), 7);
         Checks.due("bought", x.count(0), 5);
+        x.put(6, 1, 5);
+        Checks.due("counted one more", x.counted(6, 6), 1);
+        Checks.due("found one", x.count(1), 8);
+        Checks.due("counted one fewer", x.counted(6, 5), -1);
+        Checks.due("broken one", x.count(6), 13);
+        content(x, 6, 1, 5);
         Checks.dueThrow("counted(7, -1), empty", Checks.ARGUMENT, () -> x.counted(7, -1));
         Checks.dueThrow("counted(7, 13)", Checks.ARGUMENT, () -> x.counted(7, 13));
         Checks.dueThrow("counted(30, 13): the cell first", Checks.ELEMENT, () -> x.counted(30, 13));

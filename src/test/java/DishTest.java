@@ -15,6 +15,7 @@ public final class DishTest {
         matched();
         matchedInTime();
         matchedByWorth();
+        matchedOfAllLots();
         Checks.end();
     }
 
@@ -56,7 +57,7 @@ public final class DishTest {
             {"body<x+1", 5}, {"body!3+1", 4}, {"bodyx<3+1", 0}, {"age>3+", 6}, {"worth=3-a", 8}, {"worth=3*2", 7},
             {"\tred+1", 0}, {"red\t+1", 3}, {"red+1\0", 5}, {"red\u00ff+1", 3}, {"\u00e9", 0}, {"red+\u00b2", 4},
             {"red+`", 4}, {"red+:1", 4}, {"red+/1", 4}, {"{red+1", 0}, {"`red+1", 0}, {"red{+1", 3}, {"red`+1", 3},
-            {"whitered+1", 0}, {"ag>1+1", 0}, {"agee>1+1", 0}, {"sweet", 5}, {"still+1,fizz+2,sweet", 20},
+            {"whitered+1", 0}, {"ag>1+1", 0}, {"ted+1", 0}, {"rad+1", 0}, {"rex+1", 0}, {"sorth<1+1", 0}, {"agee>1+1", 0}, {"sweet", 5}, {"still+1,fizz+2,sweet", 20},
         };
         for (Object[] row : bad) {
             String text = (String) row[0];
@@ -263,5 +264,20 @@ public final class DishTest {
             x.put(lot, lot, 2);
         }
         order(x, 0, 1, 2, 3, 0);
+    }
+
+    private static void matchedOfAllLots() {
+        WineCellar x = new WineCellar();
+        x.kind(0, 1, 0, 0, 60);
+        Checks.dish(x, "red+1");
+        int[] want = new int[30];
+        for (int lot = 0; lot < 60; lot++) {
+            x.lot(0, 2000, 50 + lot / 3);
+            if (lot % 2 == 0) {
+                x.put(29 - lot / 2, lot, 1);
+                want[lot / 2] = lot;
+            }
+        }
+        order(x, 0, want);
     }
 }

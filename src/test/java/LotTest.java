@@ -176,6 +176,10 @@ public final class LotTest {
         Checks.due("YOUNG long ago", x.taste(1, YOUNG), 1);
         fromUntil(x, 1, 1952, 1952);
         Checks.due("the worth follows FROM", x.worth(0, 2012), 20);
+        x.kind(0, 1, 0, 1, 9);
+        x.lot(1, 1990, 20);
+        Checks.due("YOUNG far below UNTIL", x.taste(2, YOUNG), 1);
+        fromUntil(x, 2, 1992, 1999);
     }
 
     private static void tastedReady() {

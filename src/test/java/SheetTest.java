@@ -50,6 +50,7 @@ public final class SheetTest {
         Checks.due("nothing in it", x.deliver(0, 0), 0);
         fill(x, 0, 0, 0, 2000, 10, 5, 1);
         Checks.due("row(0, 0, 41) does nothing", x.row(0, 0, 41), -1);
+        Checks.due("row(0, 0, -1) does nothing", x.row(0, 0, -1), -1);
         Checks.due("delivered", x.deliver(0, 0), 1);
         Checks.due("a new row is all 0", x.row(0, 0, 5), 5);
         x.set(0, 0, 3, 6);
