@@ -240,6 +240,7 @@ public final class WineCellar {
             if (cell == NONE) {
                 return -2;
             }
+            // With 60 lots at most and one open bottle a lot this can't come about; the limit is the document's.
             if (openBottles() >= MOST_OPEN) {
                 return -3;
             }
