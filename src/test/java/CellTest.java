@@ -2,9 +2,7 @@
 public final class CellTest {
     public static void main(String[] args) {
         put();
-        wrongPut();
         move();
-        wrongMove();
         cell();
         find();
         sell();
@@ -44,20 +42,6 @@ public final class CellTest {
         content(x, 29, 0, 2);
     }
 
-    private static void wrongPut() {
-        WineCellar x = twoLots();
-        Checks.dueThrow("put(-1, 0, 1)", Checks.ELEMENT, () -> x.put(-1, 0, 1));
-        Checks.dueThrow("put(30, 9, 0): the cell first", Checks.ELEMENT, () -> x.put(30, 9, 0));
-        Checks.dueThrow("put(0, 2, 0): the lot then", Checks.INDEX, () -> x.put(0, 2, 0));
-        Checks.dueThrow("put(0, -1, 1)", Checks.INDEX, () -> x.put(0, -1, 1));
-        Checks.dueThrow("put(0, 0, 0)", Checks.ARGUMENT, () -> x.put(0, 0, 0));
-        Checks.dueThrow("put(0, 0, 13)", Checks.ARGUMENT, () -> x.put(0, 0, 13));
-        Checks.dueThrow("put(0, 0, -1)", Checks.ARGUMENT, () -> x.put(0, 0, -1));
-        x.put(0, 0, 12);
-        Checks.dueThrow("put(0, 1, 13) on another lot", Checks.ARGUMENT, () -> x.put(0, 1, 13));
-        Checks.due("bought", x.count(0), 12);
-    }
-
     private static void move() {
         WineCellar x = twoLots();
         x.put(3, 0, 9);
@@ -80,19 +64,6 @@ public final class CellTest {
         Checks.due("another lot may come then", x.move(4, 3, 1), 1);
         Checks.due("bought as before", x.count(0), 19);
         Checks.due("in cells as before", x.count(2), 19);
-    }
-
-    private static void wrongMove() {
-        WineCellar x = twoLots();
-        x.put(0, 0, 5);
-        Checks.dueThrow("move(-1, 0, 1)", Checks.ELEMENT, () -> x.move(-1, 0, 1));
-        Checks.dueThrow("move(0, 30, 1)", Checks.ELEMENT, () -> x.move(0, 30, 1));
-        Checks.dueThrow("move(30, 30, 0): the cells first", Checks.ELEMENT, () -> x.move(30, 30, 0));
-        Checks.dueThrow("move(0, -1, 0)", Checks.ELEMENT, () -> x.move(0, -1, 0));
-        Checks.dueThrow("move(0, 0, 1)", Checks.ARGUMENT, () -> x.move(0, 0, 1));
-        Checks.dueThrow("move(0, 1, 0)", Checks.ARGUMENT, () -> x.move(0, 1, 0));
-        Checks.dueThrow("move(2, 1, -3)", Checks.ARGUMENT, () -> x.move(2, 1, -3));
-        content(x, 0, 0, 5);
     }
 
     private static void cell() {

@@ -1,4 +1,6 @@
 import java.util.concurrent.Callable;
+import java.util.function.Supplier;
+import java.util.function.ToLongFunction;
 
 /** What the tests share: they tell each answer that is not the one due, and end with exit code 1 then. */
 final class Checks {
@@ -11,8 +13,13 @@ final class Checks {
 
     static void due(String what, long got, long want) {
         if (got != want) {
-            wrong++;
-            System.out.println(what + " answered " + got + ", due is " + want);
+            tell(what, String.valueOf(got), String.valueOf(want));
+        }
+    }
+
+    static void due(String what, String got, String want) {
+        if (!got.equals(want)) {
+            tell(what, got, want);
         }
     }
 
@@ -26,8 +33,42 @@ final class Checks {
             }
             got = e.toString();
         }
-        wrong++;
-        System.out.println(what + " answered " + got + ", due is " + want.getName());
+        tell(what, got, want.getName());
+    }
+
+    /** The call is answered so, and leaves the cellar like one in which it was not made. */
+    static void refused(String what, Supplier<WineCellar> make, long want, ToLongFunction<WineCellar> call) {
+        WineCellar x = make.get();
+        due(what, call.applyAsLong(x), want);
+        due(what + ": the cellar then", look(x), look(make.get()));
+    }
+
+    /** The call throws this, and leaves the cellar like one in which it was not made. */
+    static void refused(String what, Supplier<WineCellar> make, Class<?> want, ToLongFunction<WineCellar> call) {
+        WineCellar x = make.get();
+        dueThrow(what, want, () -> call.applyAsLong(x));
+        due(what + ": the cellar then", look(x), look(make.get()));
+    }
+
+    /** What can be asked of a cellar, in 377 calls at most: what comes behind the 512th call is free. */
+    static String look(WineCellar x) {
+        StringBuilder look = new StringBuilder("counts");
+        for (int what = 0; what < 15; what++) {
+            look.append(' ').append(x.count(what));
+        }
+        look.append(", till ").append(x.till()).append(", cells");
+        for (int cell = 0; cell < 30; cell++) {
+            look.append(' ').append(x.cell(cell, 0)).append(':').append(x.cell(cell, 1));
+        }
+        look.append(", lots");
+        int lots = x.count(10);
+        for (int lot = 0; lot < lots; lot++) {
+            look.append(' ');
+            for (int what = 3; what < 8; what++) {
+                look.append('/').append(x.told(lot, what));
+            }
+        }
+        return look.toString();
     }
 
     static void end() {
@@ -35,6 +76,11 @@ final class Checks {
             System.out.println(wrong + " answers are not as due");
             System.exit(1);
         }
+    }
+
+    private static void tell(String what, String got, String want) {
+        wrong++;
+        System.out.println(what + " answered " + got + ", due is " + want);
     }
 
     /** Feeds a text, filled up to twenties with bytes that stand behind it; answers its length. */
@@ -49,11 +95,20 @@ final class Checks {
         return x.dish(feed(x, text));
     }
 
-    private static int word(String text, int from) {
+    /** Four bytes of a text, the first highest. */
+    static int word(String text, int from) {
         int word = 0;
         for (int i = from; i < from + 4; i++) {
             word = word << 8 | (i < text.length() ? text.charAt(i) & 255 : '?');
         }
         return word;
+    }
+
+    /** A row of a sheet with these numbers. */
+    static void fill(WineCellar x, int sheet, int k, long... numbers) {
+        due("row of " + numbers.length, x.row(sheet, k, numbers.length), numbers.length);
+        for (int i = 0; i < numbers.length; i++) {
+            due("set place " + i, x.set(sheet, k, i, numbers[i]), 1);
+        }
     }
 }

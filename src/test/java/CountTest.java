@@ -2,7 +2,6 @@
 public final class CountTest {
     public static void main(String[] args) {
         counts();
-        others();
         till();
         Checks.end();
     }
@@ -48,14 +47,6 @@ public final class CountTest {
         Checks.feed(x, "white+1,white+2,white+3");
         x.move(0, 20, 2);
         dueCounts("delivered and fed", x, 17, 2, 12, 1, 2, 2, 2, 9, 5, 2, 4, 1, 2, 12, 40);
-    }
-
-    private static void others() {
-        WineCellar x = new WineCellar();
-        int[] others = {-1, 15, -2, 16, 100, Integer.MIN_VALUE, Integer.MAX_VALUE};
-        for (int what : others) {
-            Checks.due("count(" + what + ")", x.count(what), -1);
-        }
     }
 
     private static void till() {

@@ -4,14 +4,9 @@ public final class DishTest {
         feed();
         texts();
         places();
-        terms();
         firstBytesAlone();
-        badTextLeavesNothing();
-        twentyDishes();
         scores();
-        measures();
         scoresInTime();
-        wrongScore();
         matched();
         matchedInTime();
         matchedByWorth();
@@ -74,21 +69,6 @@ public final class DishTest {
         return text.toString();
     }
 
-    private static void terms() {
-        WineCellar x = new WineCellar();
-        x.kind(0, 1, 1, 0, 1);
-        x.lot(0, 2000, 1);
-        Checks.due("12 terms", Checks.dish(x, times("red+99999", 12)), 0);
-        Checks.due("their score", x.score(0, 0), 12 * 99999);
-        Checks.due("12 terms less", Checks.dish(x, times("red-99999", 12)), 1);
-        Checks.due("their score", x.score(1, 0), -12 * 99999);
-        Checks.due("13 terms", Checks.dish(x, times("red+1", 13)), -2 - 71);
-        Checks.due("a comma behind the 12th", Checks.dish(x, times("red+1", 12) + " ,"), -2 - 72);
-        Checks.due("a 13th that is none", Checks.dish(x, times("red+1", 12) + ",?"), -2 - 71);
-        Checks.due("something else behind the 12th", Checks.dish(x, times("red+1", 12) + " ?"), -2 - 72);
-        Checks.due("blanks behind the 12th", Checks.dish(x, times("red+1", 12) + "  "), 2);
-    }
-
     private static void firstBytesAlone() {
         WineCellar x = new WineCellar();
         x.kind(0, 1, 1, 0, 1);
@@ -107,35 +87,6 @@ public final class DishTest {
         Checks.due("all twenty", x.dish(20), -2 - 5);
         Checks.dueThrow("dish(1) of an empty tape", Checks.ARGUMENT, () -> x.dish(1));
         Checks.due("dish(0) of an empty tape", x.dish(0), -2);
-    }
-
-    private static void badTextLeavesNothing() {
-        WineCellar x = new WineCellar();
-        x.kind(0, 1, 1, 0, 1);
-        x.lot(0, 2000, 1);
-        Checks.due("bad behind two terms", Checks.dish(x, "red+1,red+2,red"), -2 - 15);
-        Checks.due("dishes", x.count(11), 0);
-        Checks.dueThrow("score of none", Checks.ELEMENT, () -> x.score(0, 0));
-        Checks.due("a good one", Checks.dish(x, "red+4"), 0);
-        Checks.due("its score", x.score(0, 0), 4);
-    }
-
-    private static void twentyDishes() {
-        WineCellar x = new WineCellar();
-        x.kind(0, 1, 1, 0, 1);
-        x.lot(0, 2000, 1);
-        for (int i = 0; i < 20; i++) {
-            Checks.due("dish " + i, Checks.dish(x, "red+" + i), i);
-        }
-        for (int i = 0; i < 20; i++) {
-            Checks.due("score of dish " + i, x.score(i, 0), i);
-        }
-        Checks.feed(x, "red+1");
-        Checks.dueThrow("a 21st dish", Checks.STATE, () -> x.dish(5));
-        Checks.dueThrow("a 21st dish that is none", Checks.STATE, () -> x.dish(0));
-        Checks.dueThrow("a 21st dish of too many bytes", Checks.ARGUMENT, () -> x.dish(21));
-        Checks.due("the tape is as before", x.count(14), 20);
-        Checks.due("dishes", x.count(11), 20);
     }
 
     private static void scores() {
@@ -159,21 +110,6 @@ public final class DishTest {
         }
     }
 
-    private static void measures() {
-        WineCellar x = new WineCellar();
-        x.kind(0, 2, 1, 0, 60);
-        x.lot(0, 1990, 100);
-        Object[][] want = {
-            {"age<10+1", 0}, {"age<11+1", 1}, {"age>10+1", 0}, {"age>9+1", 1}, {"age=10+1", 1}, {"age=9+1", 0},
-            {"worth<150+1", 0}, {"worth<151+1", 1}, {"worth>150+1", 0}, {"worth>149+1", 1}, {"worth=150+1", 1},
-            {"worth=100+1", 0}, {"worth<99999+1", 1}, {"age<00011+1", 1},
-        };
-        for (int i = 0; i < want.length; i++) {
-            Checks.dish(x, (String) want[i][0]);
-            Checks.due((String) want[i][0], x.score(i, 0), (Integer) want[i][1]);
-        }
-    }
-
     private static void scoresInTime() {
         WineCellar x = new WineCellar();
         x.kind(0, 2, 1, 0, 2);
@@ -184,19 +120,6 @@ public final class DishTest {
             Checks.due("score in 200" + year, x.score(0, 0), want[year]);
             x.wait(8760);
         }
-    }
-
-    private static void wrongScore() {
-        WineCellar x = new WineCellar();
-        x.kind(0, 2, 1, 0, 2);
-        x.lot(0, 2001, 100);
-        Checks.dish(x, "red+1");
-        Checks.dueThrow("score(-1, 0)", Checks.ELEMENT, () -> x.score(-1, 0));
-        Checks.dueThrow("score(1, 5): the dish first", Checks.ELEMENT, () -> x.score(1, 5));
-        Checks.dueThrow("score(0, 1)", Checks.INDEX, () -> x.score(0, 1));
-        Checks.dueThrow("score(0, -1)", Checks.INDEX, () -> x.score(0, -1));
-        Checks.dueThrow("match(-1, 0)", Checks.ELEMENT, () -> x.match(-1, 0));
-        Checks.dueThrow("match(1, 0)", Checks.ELEMENT, () -> x.match(1, 0));
     }
 
     private static void order(WineCellar x, int dish, int... want) {

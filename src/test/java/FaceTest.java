@@ -37,7 +37,8 @@ public final class FaceTest {
 
     public static void main(String[] args) {
         members();
-        newObject();
+        nothingOfAllThis();
+        objectsAreEachTheirOwn();
         Checks.end();
     }
 
@@ -81,7 +82,8 @@ public final class FaceTest {
         return names.toString();
     }
 
-    private static void newObject() {
+    /** "Nothing of all this; HOUR 0; an empty TAPE." */
+    private static void nothingOfAllThis() {
         WineCellar x = new WineCellar();
         for (int what = 0; what < 15; what++) {
             Checks.due("new: count(" + what + ")", x.count(what), 0);
@@ -90,14 +92,30 @@ public final class FaceTest {
         for (int cell = 0; cell < 30; cell++) {
             Checks.due("new: cell(" + cell + ", 0)", x.cell(cell, 0), -1);
             Checks.due("new: cell(" + cell + ", 1)", x.cell(cell, 1), 0);
+            Checks.due("new: sell(" + cell + ")", x.sell(cell), -1);
         }
         Checks.dueThrow("new: lot(0, 2000, 1)", Checks.INDEX, () -> x.lot(0, 2000, 1));
         Checks.dueThrow("new: told(0, 0)", Checks.INDEX, () -> x.told(0, 0));
         Checks.dueThrow("new: match(0, 0)", Checks.ELEMENT, () -> x.match(0, 0));
         Checks.dueThrow("new: row(0, 0, 1)", Checks.INDEX, () -> x.row(0, 0, 1));
         Checks.dueThrow("new: dish(1)", Checks.ARGUMENT, () -> x.dish(1));
-        Checks.due("new: dish(0)", x.dish(0), -2);
         Checks.due("new: plan(6, 100)", x.plan(6, 100), 0);
         Checks.due("new: wait(0)", x.wait(0), 0);
+    }
+
+    private static void objectsAreEachTheirOwn() {
+        String before = Checks.look(new WineCellar());
+        WineCellar x = new WineCellar();
+        x.kind(0, 1, 0, 0, 60);
+        x.lot(0, 2000, 10);
+        x.put(3, 0, 4);
+        x.sheet(0);
+        Checks.dish(x, "red+1");
+        Checks.feed(x, "red+1");
+        x.glass(0);
+        x.sell(3);
+        x.broken(3);
+        x.wait(5);
+        Checks.due("a new cellar beside another one", Checks.look(new WineCellar()), before);
     }
 }

@@ -2,15 +2,9 @@
 public final class GlassTest {
     public static void main(String[] args) {
         sixOfABottle();
-        lowestCell();
-        priceRoundedUp();
         byTheYear();
         openOneInALaterYear();
-        kept();
         keptSinceOpened();
-        allLotsOpen();
-        waits();
-        wrongCalls();
         Checks.end();
     }
 
@@ -51,24 +45,6 @@ public final class GlassTest {
         Checks.due("spilt", x.count(8), 0);
         Checks.due("sold", x.count(4), 0);
         Checks.due("till", x.till(), 120);
-    }
-
-    private static void lowestCell() {
-        WineCellar x = lotOf(0, 50);
-        x.put(20, 0, 3);
-        x.put(4, 0, 3);
-        x.glass(0);
-        Checks.due("cell 4", x.cell(4, 1), 2);
-        Checks.due("cell 20", x.cell(20, 1), 3);
-    }
-
-    private static void priceRoundedUp() {
-        int[][] want = {{1, 1}, {4, 1}, {5, 1}, {6, 2}, {10, 2}, {11, 3}, {9999, 2000}, {10000, 2000}};
-        for (int[] row : want) {
-            WineCellar x = lotOf(1, row[0]);
-            x.put(0, 0, 1);
-            Checks.due("glass at worth " + row[0], x.glass(0), row[1]);
-        }
     }
 
     private static void byTheYear() {
@@ -114,31 +90,6 @@ public final class GlassTest {
         open(x, 1, 0, 0);
     }
 
-    private static void kept() {
-        int[] hours = {48, 12, 240};
-        for (int sort = 0; sort < 3; sort++) {
-            WineCellar x = lotOf(sort, 50);
-            x.put(0, 0, 1);
-            x.wait(5);
-            x.glass(0);
-            x.glass(0);
-            x.wait(hours[sort] - 1);
-            open(x, 0, 1, 4);
-            x.wait(0);
-            open(x, 0, 1, 4);
-            Checks.due("spilt", x.count(8), 0);
-            x.wait(1);
-            open(x, 0, 0, 0);
-            Checks.due("spilt", x.count(8), 4);
-            Checks.due("empty", x.count(5), 1);
-            Checks.due("poured", x.count(7), 2);
-            Checks.due("open", x.count(3), 0);
-            Checks.due("glass then", x.glass(0), -2);
-            x.wait(1000);
-            Checks.due("spilt once", x.count(8), 4);
-        }
-    }
-
     private static void keptSinceOpened() {
         WineCellar x = lotOf(1, 50);
         x.lot(0, 2000, 10);
@@ -161,54 +112,5 @@ public final class GlassTest {
         open(x, 0, 0, 0);
         Checks.due("spilt", x.count(8), 14);
         Checks.due("empty", x.count(5), 3);
-    }
-
-    /** One of each lot is open: since a lot opens no second one, 60 are the most there can be. */
-    private static void allLotsOpen() {
-        WineCellar x = new WineCellar();
-        x.kind(2, 1, 0, 0, 60);
-        for (int lot = 0; lot < 60; lot++) {
-            x.lot(0, 2000, 5);
-            x.put(0, lot, 1);
-            Checks.due("glass of " + lot, x.glass(lot), 1);
-        }
-        Checks.due("open", x.count(3), 60);
-        x.put(0, 0, 1);
-        for (int i = 0; i < 5; i++) {
-            Checks.due("an open one is poured among 60", x.glass(0), 1);
-        }
-        Checks.due("open", x.count(3), 59);
-        Checks.due("a 60th is opened", x.glass(0), 1);
-        Checks.due("open", x.count(3), 60);
-    }
-
-    private static void waits() {
-        WineCellar x = new WineCellar();
-        Checks.due("wait(0)", x.wait(0), 0);
-        for (int i = 1; i < 10; i++) {
-            Checks.due("wait(100000)", x.wait(100000), i * 100000);
-        }
-        Checks.due("wait(99999)", x.wait(99999), 999999);
-        Checks.dueThrow("wait(2) at 999999", Checks.STATE, () -> x.wait(2));
-        Checks.dueThrow("wait(100001) at 999999", Checks.ARGUMENT, () -> x.wait(100001));
-        Checks.due("the hour as before", x.count(13), 999999);
-        Checks.due("wait(1)", x.wait(1), 1000000);
-        Checks.due("wait(0) at the end", x.wait(0), 1000000);
-        Checks.dueThrow("wait(1) at the end", Checks.STATE, () -> x.wait(1));
-        x.kind(0, 1, 0, 0, 60);
-        x.lot(0, 2100, 20);
-        x.put(0, 0, 1);
-        Checks.due("the year is 2114", x.sell(0), 34);
-    }
-
-    private static void wrongCalls() {
-        WineCellar x = lotOf(0, 50);
-        Checks.dueThrow("glass(-1)", Checks.INDEX, () -> x.glass(-1));
-        Checks.dueThrow("glass(1)", Checks.INDEX, () -> x.glass(1));
-        Checks.dueThrow("wait(-1)", Checks.ARGUMENT, () -> x.wait(-1));
-        Checks.dueThrow("wait(100001)", Checks.ARGUMENT, () -> x.wait(100001));
-        Checks.dueThrow("wait(MIN)", Checks.ARGUMENT, () -> x.wait(Integer.MIN_VALUE));
-        Checks.dueThrow("wait(MAX)", Checks.ARGUMENT, () -> x.wait(Integer.MAX_VALUE));
-        Checks.due("the hour as before", x.count(13), 0);
     }
 }

@@ -6,77 +6,15 @@ public final class LotTest {
     private static final int FINE = 3;
 
     public static void main(String[] args) {
-        kinds();
-        wrongKinds();
-        lots();
-        wrongLots();
         told();
         worthInTime();
         worthBehind();
         worthOfOddPrices();
-        wrongWorth();
         tastedYoung();
         tastedReady();
         tastedTired();
         tastedFine();
-        wrongTaste();
         Checks.end();
-    }
-
-    private static void kinds() {
-        WineCellar x = new WineCellar();
-        Checks.due("kind at the low edges", x.kind(0, 1, 0, 0, 0), 0);
-        Checks.due("kind at the high edges", x.kind(2, 5, 1, 60, 60), 1);
-        for (int i = 2; i < 20; i++) {
-            Checks.due("kind number " + i, x.kind(1, 3, 1, 0, 60), i);
-        }
-        Checks.due("a 21st kind", x.kind(1, 3, 1, 0, 60), -1);
-        Checks.due("kinds then", x.count(9), 20);
-        Checks.dueThrow("a wrong 21st kind", Checks.ARGUMENT, () -> x.kind(3, 3, 1, 0, 60));
-        Checks.due("the last kind has lots", x.lot(19, 2000, 1), 0);
-    }
-
-    private static void wrongKinds() {
-        WineCellar x = new WineCellar();
-        int[][] wrong = {
-            {-1, 1, 0, 0, 0}, {3, 1, 0, 0, 0}, {0, 0, 0, 0, 0}, {0, 6, 0, 0, 0}, {0, 1, -1, 0, 0}, {0, 1, 2, 0, 0},
-            {0, 1, 0, -1, 0}, {0, 1, 0, 61, 61}, {0, 1, 0, 0, -1}, {0, 1, 0, 0, 61}, {0, 1, 0, 5, 4},
-            {Integer.MIN_VALUE, 1, 0, 0, 0}, {0, Integer.MAX_VALUE, 0, 0, 0}, {0, 1, 0, -2, -1},
-        };
-        for (int[] w : wrong) {
-            Checks.dueThrow("kind" + java.util.Arrays.toString(w), Checks.ARGUMENT,
-                    () -> x.kind(w[0], w[1], w[2], w[3], w[4]));
-        }
-        Checks.due("no wrong kind came", x.count(9), 0);
-    }
-
-    private static void lots() {
-        WineCellar x = new WineCellar();
-        x.kind(0, 1, 0, 0, 60);
-        Checks.due("lot at the low edges", x.lot(0, 1900, 1), 0);
-        Checks.due("lot at the high edges", x.lot(0, 2100, 10000), 1);
-        for (int i = 2; i < 60; i++) {
-            Checks.due("lot number " + i, x.lot(0, 2000, 5), i);
-        }
-        Checks.due("a 61st lot", x.lot(0, 2000, 5), -1);
-        Checks.due("lots then", x.count(10), 60);
-        Checks.dueThrow("a 61st lot of no kind", Checks.INDEX, () -> x.lot(1, 2000, 5));
-        Checks.dueThrow("a wrong 61st lot", Checks.ARGUMENT, () -> x.lot(0, 2000, 0));
-        Checks.due("the last lot is told", x.told(59, 2), 5);
-        Checks.dueThrow("told of a 61st lot", Checks.INDEX, () -> x.told(60, 2));
-    }
-
-    private static void wrongLots() {
-        WineCellar x = new WineCellar();
-        x.kind(0, 1, 0, 0, 60);
-        Checks.dueThrow("lot(-1, ..)", Checks.INDEX, () -> x.lot(-1, 2000, 5));
-        Checks.dueThrow("lot(1, ..)", Checks.INDEX, () -> x.lot(1, 2000, 5));
-        Checks.dueThrow("lot(1, 0, 0): the kind first", Checks.INDEX, () -> x.lot(1, 0, 0));
-        Checks.dueThrow("lot of 1899", Checks.ARGUMENT, () -> x.lot(0, 1899, 5));
-        Checks.dueThrow("lot of 2101", Checks.ARGUMENT, () -> x.lot(0, 2101, 5));
-        Checks.dueThrow("lot at 0", Checks.ARGUMENT, () -> x.lot(0, 2000, 0));
-        Checks.dueThrow("lot at 10001", Checks.ARGUMENT, () -> x.lot(0, 2000, 10001));
-        Checks.due("no wrong lot came", x.count(10), 0);
     }
 
     private static void told() {
@@ -146,17 +84,6 @@ public final class LotTest {
         Checks.due("its half", x.worth(2, 1961), 20000);
         Checks.due("the last year in which it is worth 1", x.worth(2, 1975), 1);
         Checks.due("the first in which it is worth nothing", x.worth(2, 1976), 0);
-    }
-
-    private static void wrongWorth() {
-        WineCellar x = new WineCellar();
-        x.kind(0, 1, 0, 0, 60);
-        x.lot(0, 2100, 20);
-        Checks.due("worth in 2300", x.worth(0, 2300), 0);
-        Checks.dueThrow("worth in 1899", Checks.ARGUMENT, () -> x.worth(0, 1899));
-        Checks.dueThrow("worth in 2301", Checks.ARGUMENT, () -> x.worth(0, 2301));
-        Checks.dueThrow("worth(1, 1899): the lot first", Checks.INDEX, () -> x.worth(1, 1899));
-        Checks.dueThrow("worth(-1, 2000)", Checks.INDEX, () -> x.worth(-1, 2000));
     }
 
     private static void fromUntil(WineCellar x, int lot, int from, int until) {
@@ -229,16 +156,5 @@ public final class LotTest {
         }
         fromUntil(x, 0, 1991, 2595);
         Checks.due("worth in 2300 below UNTIL", x.worth(0, 2300), 20 + 309);
-    }
-
-    private static void wrongTaste() {
-        WineCellar x = new WineCellar();
-        x.kind(0, 1, 0, 1, 1);
-        x.lot(0, 2010, 20);
-        Checks.dueThrow("taste(0, -1)", Checks.ARGUMENT, () -> x.taste(0, -1));
-        Checks.dueThrow("taste(0, 4)", Checks.ARGUMENT, () -> x.taste(0, 4));
-        Checks.dueThrow("taste(1, 4): the lot first", Checks.INDEX, () -> x.taste(1, 4));
-        Checks.dueThrow("taste(-1, 0)", Checks.INDEX, () -> x.taste(-1, 0));
-        fromUntil(x, 0, 2011, 2011);
     }
 }
