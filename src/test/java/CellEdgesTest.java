@@ -358,5 +358,13 @@ public final class CellEdgesTest {
             Checks.due(told + "bought", x.count(0), 20);
             Checks.due(told + "in cells", x.count(2), 15 + bottles);
         }
+        WineCellar x = stocked();
+        x.counted(0, 7);
+        x.counted(1, 4);
+        Checks.due("found in two cells", x.count(1), 3);
+        x.counted(0, 4);
+        x.counted(1, 2);
+        Checks.due("broken in two cells", x.count(6), 5);
+        Checks.due("found as before", x.count(1), 3);
     }
 }

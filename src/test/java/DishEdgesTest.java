@@ -22,6 +22,7 @@ public final class DishEdgesTest {
         wordThatCannot();
         blanks();
         onlyByte32IsABlank();
+        everyByte();
         endTooEarly();
         signsOfTests();
         signsOfPoints();
@@ -305,6 +306,27 @@ public final class DishEdgesTest {
             place("red+1" + other, 5);
             place("red+1 " + other, 6);
         }
+    }
+
+    /** "the first byte that can't stand there": each of the 256, ahead of a text, within it and behind it. */
+    private static void everyByte() {
+        for (int sign = 0; sign < 256; sign++) {
+            String one = String.valueOf((char) sign);
+            boolean blank = sign == 32;
+            boolean digit = sign >= 48 && sign <= 57;
+            boolean letter = sign >= 97 && sign <= 122;
+            int way = sign == '+' || sign == '-' ? 1 : 0;
+            answers(one + "red+1", blank ? 0 : -2);
+            answers("red" + one + "+1", blank ? 0 : -2 - (letter ? 0 : 3 + way));
+            answers("red+" + one, digit ? 0 : -2 - (blank ? 5 : 4));
+            answers("red+1" + one, blank || digit ? 0 : -2 - (sign == ',' ? 6 : 5));
+            answers("body" + one + "3+1", one.matches("[<>=]") ? 0 : -2 - (letter ? 0 : blank ? 5 : 4));
+            answers("body<" + one + "+1", digit ? 0 : -2 - (blank ? 6 : 5));
+        }
+    }
+
+    private static void answers(String text, int want) {
+        Checks.due("\"" + text + "\"", Checks.dish(new WineCellar(), text), want);
     }
 
     /** "the end: its length" */

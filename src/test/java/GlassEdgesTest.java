@@ -300,7 +300,7 @@ public final class GlassEdgesTest {
         Checks.due("wait(100,000)", new WineCellar().wait(100000), 100000);
     }
 
-    /** A bottle is open that has an hour to go. */
+    /** A sweet bottle is open that has an hour to go. */
     private static WineCellar atHour(int hour) {
         WineCellar x = new WineCellar();
         x.kind(2, 1, 0, 0, 60);
@@ -319,7 +319,10 @@ public final class GlassEdgesTest {
         Checks.due("wait to 999,999", atHour(900000).wait(99999), 999999);
         Checks.due("wait to 1,000,000", atHour(900000).wait(100000), 1000000);
         Checks.refused("wait to 1,000,001", () -> atHour(900001), Checks.STATE, x -> x.wait(100000));
-        Checks.due("wait(1) in 999,999", atHour(999999).wait(1), 1000000);
+        WineCellar last = atHour(999999);
+        open("in 999,999", last, 1, 5, 0, 0);
+        Checks.due("wait(1) in 999,999", last.wait(1), 1000000);
+        open("in 1,000,000", last, 0, 0, 1, 5);
         Checks.refused("wait(2) in 999,999", () -> atHour(999999), Checks.STATE, x -> x.wait(2));
         Checks.refused("wait(1) in 1,000,000", () -> atHour(1000000), Checks.STATE, x -> x.wait(1));
         Checks.refused("wait(0) in 1,000,000", () -> atHour(1000000), 1000000, x -> x.wait(0));
